@@ -81,6 +81,12 @@ public final class PromiseTests {
         draft(x, 65);
         due("a MARK of 0 at first", x.string(), SignTables.BAD);
         due("objects are apart", new SignTables().count(0), 0);
+        due("BAD", SignTables.BAD, -1);
+        due("FULL", SignTables.FULL, -2);
+        due("LONG", SignTables.LONG, -3);
+        due("NULL", SignTables.NULL, -11);
+        due("CAST", SignTables.CAST, -12);
+        due("INDEX", SignTables.INDEX, -13);
     }
 
     private static void promise2() {
@@ -139,6 +145,8 @@ public final class PromiseTests {
         x.run();
         dueSigns("halves", x, 65536, 56320, 55296, 66559, 56319, 57344, 1114111, 55295, 56320);
         dueSpans("halves", x, 0, 2, 2, 3, 3, 4, 4, 6, 6, 7, 7, 8, 8, 10, 10, 11, 11, 12);
+        draft(x, 56320, 56320, 57343, 56320);
+        due("LOW halves alone", x.text(), 4);
         draft(x, 55296);
         due("a HIGH half at the end", x.text(), 1);
         due("the run stays with a new text", x.sign(0), 65536);
@@ -444,6 +452,12 @@ public final class PromiseTests {
     }
 
     private static void runReplacing() {
+        SignTables w = withText(repeated(97, 100));
+        string(w, row(97), 98, 98, 98, 98);
+        string(w, repeated(97, 97), 99, 99, 99);
+        w.filter(0, 4);
+        due("97 at once, three alone", w.run(), 15);
+        dueSpans("97 at once, three alone", w, 0, 97, 0, 97, 0, 97, 97, 98);
         SignTables x = withText(97, 98, 99, 97, 98, 97, 97, 98);
         string(x, row(97), 49);
         string(x, row(97, 98, 99), 51, 51, 51);
@@ -537,26 +551,25 @@ public final class PromiseTests {
         retext(x, 65, 66);
         due("a shorter text", x.run(), 0);
         due("met(2)", x.met(2), 8);
-        longBySign301();
+        runOneTooMany();
     }
 
-    private static void longBySign301() {
-        SignTables x = withText(repeated(97, 100));
-        string(x, row(97, 97), repeated(98, 6));
+    /** 75 SIGNS become 300, and one more comes out by itself or out of a STRING. */
+    private static void runOneTooMany() {
+        SignTables x = withText(repeated(97, 75));
+        string(x, row(97), 98, 99, 100, 101);
+        string(x, row(66), 98);
         x.filter(0, 4);
-        due("STRINGS to 300", x.run(), 300);
-        dueSpans("STRINGS to 300", x, 0, 2, 0, 2);
-        string(x, row(97, 97, 97, 97), repeated(98, 13));
-        due("STRINGS to 325", x.run(), SignTables.LONG);
+        due("300 by STRINGS", x.run(), 300);
+        draft(x, repeated(97, 75));
+        retext(x, 65);
+        due("301, the last one by itself", x.run(), SignTables.LONG);
+        draft(x, repeated(97, 75));
+        retext(x, 66);
+        due("301, the last one out of a STRING", x.run(), SignTables.LONG);
         due("count(8) stays", x.count(8), 300);
-        SignTables y = withText(repeated(97, 100));
-        string(y, row(97), 98, 98, 98, 98);
-        string(y, repeated(97, 97), repeated(99, 3));
-        y.filter(0, 4);
-        due("97 at once and three alone", y.run(), 15);
-        string(y, repeated(97, 97));
-        retext(y, repeated(97, 99));
-        due("97 for none and two alone", y.run(), 8);
+        due("met(0) stays", x.met(0), 75);
+        due("sign(299) stays", x.sign(299), 101);
     }
 
     private static void promise14() {
@@ -667,6 +680,11 @@ public final class PromiseTests {
         due("a large one is 1", x.broken(2), 0);
         due("behind the last", x.broken(3), 1);
         due("beyond", x.broken(4), SignTables.INDEX);
+        retext(x, 128, 97, 65535, 55296);
+        x.run();
+        due("128 is above 127", x.broken(1), 0);
+        due("65535 is above 127", x.broken(2), 0);
+        due("a half is above 127", x.broken(3), 0);
         x.text();
         x.run();
         due("none came out, at 0", x.broken(0), 1);
