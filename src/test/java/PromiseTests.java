@@ -1,66 +1,5 @@
 /** One method a promise: ordinary inputs, the edges that the document names, and wrong inputs. */
-public final class PromiseTests {
-    private static int wrong = 0;
-    private static int promise = 0;
-
-    private static void due(String call, int got, int want) {
-        if (got != want) {
-            wrong++;
-            System.out.println("promise " + promise + ": " + call + " answered " + got + ", due is " + want);
-        }
-    }
-
-    private static void draft(SignTables x, int... units) {
-        for (int u : units) {
-            x.unit(u);
-        }
-    }
-
-    private static SignTables withText(int... units) {
-        SignTables x = new SignTables();
-        draft(x, units);
-        x.text();
-        return x;
-    }
-
-    private static void retext(SignTables x, int... units) {
-        draft(x, units);
-        x.text();
-    }
-
-    private static int string(SignTables x, int[] before, int... after) {
-        draft(x, before);
-        x.mark();
-        draft(x, after);
-        return x.string();
-    }
-
-    private static int[] row(int... numbers) {
-        return numbers;
-    }
-
-    private static int[] repeated(int number, int times) {
-        int[] all = new int[times];
-        java.util.Arrays.fill(all, number);
-        return all;
-    }
-
-    private static void dueSigns(String what, SignTables x, int... signs) {
-        due(what + ": count(8)", x.count(8), signs.length);
-        for (int i = 0; i < signs.length; i++) {
-            due(what + ": sign(" + i + ")", x.sign(i), signs[i]);
-        }
-        due(what + ": sign behind the last", x.sign(signs.length), SignTables.INDEX);
-    }
-
-    /** begin, end of each SIGN that came out, one behind the other. */
-    private static void dueSpans(String what, SignTables x, int... spans) {
-        for (int i = 0; i < spans.length / 2; i++) {
-            due(what + ": place(" + i + ", false)", x.place(i, false), spans[2 * i]);
-            due(what + ": place(" + i + ", true)", x.place(i, true), spans[2 * i + 1]);
-        }
-    }
-
+public final class PromiseTests extends Checks {
     private static void promise1() {
         SignTables x = new SignTables();
         for (int what = 0; what <= 8; what++) {
@@ -841,7 +780,7 @@ public final class PromiseTests {
     }
 
     private static void run(int number) {
-        promise = number;
+        begin("promise " + number);
         switch (number) {
             case 1: promise1(); break;
             case 2: promise2(); break;
@@ -873,9 +812,6 @@ public final class PromiseTests {
         for (int number = 1; number <= 23; number++) {
             run(number);
         }
-        System.out.println(wrong == 0 ? "promises 1 to 23 hold" : wrong + " answers are not as due");
-        if (wrong != 0) {
-            System.exit(1);
-        }
+        end("promises 1 to 23 hold");
     }
 }
