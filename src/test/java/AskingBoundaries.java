@@ -38,6 +38,15 @@ public final class AskingBoundaries extends Checks {
         return x;
     }
 
+    /** THE DRAFT, THE TEXT, THE CHAIN and the FOLDS are those of beforeLong(). */
+    private static void dueAsBeforeLong(SignTables x) {
+        due("unit(97)", x.unit(97), 1);
+        due("run()", x.run(), SignTables.LONG);
+        retext(x, 65);
+        due("run() of a shorter text", x.run(), 10);
+        dueSpans("a shorter text", x, 0, 1, 1, 2);
+    }
+
     private static void dueClass(int sign, int wanted) {
         due("table(" + sign + ")", new SignTables().table(sign), wanted);
     }
@@ -341,6 +350,15 @@ public final class AskingBoundaries extends Checks {
         due("sign(1)", x.sign(1), SignTables.INDEX);
     }
 
+    private static void p14ARefusedSignChangesNothing() {
+        SignTables x = beforeLong();
+        String before = picture(x);
+        due("sign(-1)", x.sign(-1), SignTables.INDEX);
+        due("sign(4)", x.sign(4), SignTables.INDEX);
+        dueSame("all", picture(x), before);
+        dueAsBeforeLong(x);
+    }
+
     // ---- Promise 15
 
     private static void p15TheFirstSpan() {
@@ -425,6 +443,15 @@ public final class AskingBoundaries extends Checks {
         dueSpans("from the first to the second", x, 0, 3);
     }
 
+    private static void p15ARefusedPlaceChangesNothing() {
+        SignTables x = beforeLong();
+        String before = picture(x);
+        due("place(-1, true)", x.place(-1, true), SignTables.INDEX);
+        due("place(4, false)", x.place(4, false), SignTables.INDEX);
+        dueSame("all", picture(x), before);
+        dueAsBeforeLong(x);
+    }
+
     // ---- Promise 16
 
     private static void p16TheFirstUnit() {
@@ -497,6 +524,15 @@ public final class AskingBoundaries extends Checks {
         due("unitAt(598)", x.unitAt(598), 55296);
         due("unitAt(599)", x.unitAt(599), 56321);
         due("unitAt(600)", x.unitAt(600), SignTables.INDEX);
+    }
+
+    private static void p16ARefusedUnitAtChangesNothing() {
+        SignTables x = beforeLong();
+        String before = picture(x);
+        due("unitAt(-1)", x.unitAt(-1), SignTables.INDEX);
+        due("unitAt(5)", x.unitAt(5), SignTables.INDEX);
+        dueSame("all", picture(x), before);
+        dueAsBeforeLong(x);
     }
 
     // ---- Promise 17
@@ -635,6 +671,15 @@ public final class AskingBoundaries extends Checks {
         due("broken(3)", x.broken(3), 1);
     }
 
+    private static void p18ARefusedBrokenChangesNothing() {
+        SignTables x = beforeLong();
+        String before = picture(x);
+        due("broken(-1)", x.broken(-1), SignTables.INDEX);
+        due("broken(5)", x.broken(5), SignTables.INDEX);
+        dueSame("all", picture(x), before);
+        dueAsBeforeLong(x);
+    }
+
     // ---- Promise 19
 
     private static void p19Below0IsIndex() {
@@ -704,6 +749,15 @@ public final class AskingBoundaries extends Checks {
         x.run();
         due("met(0)", x.met(0), 1);
         due("met(1)", x.met(1), 0);
+    }
+
+    private static void p19ARefusedMetChangesNothing() {
+        SignTables x = beforeLong();
+        String before = picture(x);
+        due("met(8)", x.met(8), SignTables.INDEX);
+        due("met(0)", x.met(0), SignTables.NULL);
+        dueSame("all", picture(x), before);
+        dueAsBeforeLong(x);
     }
 
     // ---- Promise 20
@@ -801,6 +855,15 @@ public final class AskingBoundaries extends Checks {
         due("grown(7)", x.grown(7), -3);
     }
 
+    private static void p20ARefusedGrownChangesNothing() {
+        SignTables x = beforeLong();
+        String before = picture(x);
+        due("grown(8)", x.grown(8), SignTables.INDEX);
+        due("grown(0)", x.grown(0), SignTables.NULL);
+        dueSame("all", picture(x), before);
+        dueAsBeforeLong(x);
+    }
+
     // ---- Promise 21
 
     private static void p21Below0IsIndex() {
@@ -864,6 +927,15 @@ public final class AskingBoundaries extends Checks {
     private static void p21Others() {
         dueClass(33, 4);
         dueClass(126, 4);
+    }
+
+    private static void p21ARefusedTableChangesNothing() {
+        SignTables x = beforeLong();
+        String before = picture(x);
+        due("table(-1)", x.table(-1), SignTables.INDEX);
+        due("table(128)", x.table(128), SignTables.INDEX);
+        dueSame("all", picture(x), before);
+        dueAsBeforeLong(x);
     }
 
     // ---- Promise 22
@@ -948,6 +1020,16 @@ public final class AskingBoundaries extends Checks {
         due("sign(0)", x.sign(0), 1632);
     }
 
+    private static void p22NoDigitChangesNothing() {
+        SignTables x = beforeLong();
+        x.zero(48);
+        String before = picture(x);
+        due("digit(47)", x.digit(47), -9);
+        dueSame("all", picture(x), before);
+        due("digit(48)", x.digit(48), 0);
+        dueAsBeforeLong(x);
+    }
+
     // ---- Promise 23
 
     private static void p23Below0IsBad() {
@@ -1013,6 +1095,15 @@ public final class AskingBoundaries extends Checks {
         for (int what = 0; what < wanted.length; what++) {
             due("count(" + what + ")", x.count(what), wanted[what]);
         }
+    }
+
+    private static void p23ARefusedCountChangesNothing() {
+        SignTables x = beforeLong();
+        String before = picture(x);
+        due("count(-1)", x.count(-1), SignTables.BAD);
+        due("count(9)", x.count(9), SignTables.BAD);
+        dueSame("all", picture(x), before);
+        dueAsBeforeLong(x);
     }
 
     public static void main(String[] args) {
