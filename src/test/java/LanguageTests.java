@@ -97,29 +97,43 @@ public final class LanguageTests {
             complain(m.getParameterCount() > 7, "too many parameters: " + m);
         }
         Set<String> constants = new TreeSet<>();
-        int others = 0;
         for (Field f : SignTables.class.getDeclaredFields()) {
             if (Modifier.isPublic(f.getModifiers())) {
                 constants.add(f.getName());
             } else {
                 complain(!Modifier.isPrivate(f.getModifiers()), "not private: " + f);
             }
-            others += Modifier.isStatic(f.getModifiers()) ? 0 : 1;
         }
         complain(!constants.equals(new TreeSet<>(Arrays.asList("BAD", "FULL", "LONG", "NULL", "CAST", "INDEX"))),
             "the constants are " + constants);
-        complain(others > 20, "too many fields: " + others);
         complain(!Modifier.isFinal(SignTables.class.getModifiers()), "the class is not final");
         complain(SignTables.class.getDeclaredConstructors().length != 1, "more than one constructor");
     }
 
+    private static boolean isNameOfTheFace(String name) {
+        for (Method m : SignTables.class.getDeclaredMethods()) {
+            if (Modifier.isPublic(m.getModifiers()) && m.getName().equals(name)) {
+                return true;
+            }
+        }
+        return false;
+    }
+
     private static void checkClass(Class<?> one) {
+        int fields = 0;
         for (Field f : one.getDeclaredFields()) {
             complain(Modifier.isStatic(f.getModifiers()) && !Modifier.isFinal(f.getModifiers()), "static: " + f);
+            fields += Modifier.isStatic(f.getModifiers()) ? 0 : 1;
         }
+        complain(fields > 20, "too many fields: " + one);
         for (Class<?> inside : one.getDeclaredClasses()) {
             complain(!Modifier.isStatic(inside.getModifiers()), "not static: " + inside);
-            complain(Modifier.isPublic(inside.getModifiers()), "public: " + inside);
+            complain(Modifier.isPublic(inside.getModifiers()) || Modifier.isProtected(inside.getModifiers()),
+                "neither private nor package-visible: " + inside);
+            for (Method m : inside.getDeclaredMethods()) {
+                complain(Modifier.isPrivate(m.getModifiers()) && isNameOfTheFace(m.getName()), "the name of " + m);
+                complain(m.getParameterCount() > 7, "too many parameters: " + m);
+            }
             checkClass(inside);
         }
     }

@@ -463,6 +463,15 @@ public final class TermBoundaries extends Checks {
         dueSpans("composed", x, 0, 3, 3, 4);
     }
 
+    private static void whatIsNotComposedKeepsItsSpan() {
+        SignTables x = withText(97, 55296, 56320, 98, 99);
+        x.pair(98, 99, 1);
+        x.filter(0, 1);
+        x.run();
+        dueSigns("the last two", x, 97, 65536, 1);
+        dueSpans("the last two", x, 0, 1, 1, 3, 3, 5);
+    }
+
     // ---- Terms 2, kind 2: DIGITS
 
     private static void belowAZeroIsNoDigit() {
@@ -506,6 +515,16 @@ public final class TermBoundaries extends Checks {
         x.filter(0, 2);
         x.run();
         dueSigns("1633 was told first", x, 48, 48, 56, 57);
+    }
+
+    private static void eachDigitKeepsItsSpan() {
+        SignTables x = withText(97, 55297, 56485, 1633, 98);
+        x.zero(66720);
+        x.zero(1632);
+        x.filter(0, 2);
+        x.run();
+        dueSigns("two digits", x, 97, 53, 49, 98);
+        dueSpans("two digits", x, 0, 1, 1, 3, 3, 4, 4, 5);
     }
 
     // ---- Terms 2, kind 3: DROPPING
@@ -746,6 +765,14 @@ public final class TermBoundaries extends Checks {
         dueSigns("kept", x, 55296, 97);
     }
 
+    private static void eachHalfKeptKeepsItsSpan() {
+        SignTables x = withText(55296, 56320, 57343, 97, 55296);
+        x.filter(0, 5);
+        x.run();
+        dueSigns("kept", x, 65536, 57343, 97, 55296);
+        dueSpans("kept", x, 0, 2, 2, 3, 3, 4, 4, 5);
+    }
+
     private static void rule1Makes65533OfHalves() {
         SignTables x = withText(55296, 97, 57343);
         x.filter(0, 5);
@@ -816,6 +843,14 @@ public final class TermBoundaries extends Checks {
         x.filter(0, 6);
         x.run();
         dueSigns("12289", x, 12289);
+    }
+
+    private static void eachSignOfWidthsKeepsItsSpan() {
+        SignTables x = withText(55296, 56320, 65281, 97, 12288);
+        x.filter(0, 6);
+        x.run();
+        dueSigns("narrow", x, 65536, 33, 97, 32);
+        dueSpans("narrow", x, 0, 2, 2, 3, 3, 4, 4, 5);
     }
 
     // ---- Terms 2: MET also if nothing changed
