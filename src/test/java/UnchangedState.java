@@ -18,7 +18,7 @@ public final class UnchangedState extends Checks {
 
     // ---- the objects
 
-    /** All seven kinds at places 0 to 6, none at 7; a TEXT that is not the one of the latest run. */
+    /** All seven kinds at places 0 to 6, none at 7; a TEXT that is not the one of the latest run; a LONG run since. */
     private static SignTables rich() {
         SignTables x = new SignTables();
         x.fold(65, 66, 67, -1);
@@ -32,11 +32,22 @@ public final class UnchangedState extends Checks {
         x.rule(5, 1);
         retext(x, 65, 65, 97, 776, 1634, 201, 120, 121, 55297, 65282, 55296, 56321, 33);
         x.run();
+        runLong(x);
         retext(x, TEXT);
         draft(x, DRAFT[0], DRAFT[1]);
         x.mark();
         draft(x, DRAFT[2], DRAFT[3]);
         return x;
+    }
+
+    /** What a LONG run counted on its way must not come up later. */
+    private static void runLong(SignTables x) {
+        x.fold(65, 65, 65, 65);
+        x.filter(7, 0);
+        retext(x, repeated(65, 100));
+        due("a LONG run", x.run(), SignTables.LONG);
+        x.drop(7);
+        x.fold(65, 66, 67, -1);
     }
 
     private static SignTables richWithoutMark() {
